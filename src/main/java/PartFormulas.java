@@ -20,7 +20,7 @@ public final class PartFormulas {
     private static final int LONGEST_TEXT = 400;
     private static final int MOST_STATEMENTS = 24;
     private static final int MOST_CONDITIONS = 4;
-    private static final int MOST_GROUPS = 8;
+    private static final int MOST_NESTED = 8;
     private static final int MOST_DIGITS = 5;
     private static final int MOST_DIGITS_BEHIND_POINT = 3;
     private static final int MOST_VERSIONS = 4;
@@ -49,7 +49,7 @@ public final class PartFormulas {
     private static final int SUM = 2;
 
     // In each group a sum and a product can wait for their right sides, and one operand is on top.
-    private static final int DEEPEST_STACK = 2 * (MOST_GROUPS + 1) + 1;
+    private static final int DEEPEST_STACK = 2 * (MOST_NESTED + 1) + 1;
     // Euclid's way takes fewer than 90 turns for numbers that fit a long.
     private static final int MOST_EUCLID_TURNS = 100;
 
@@ -500,10 +500,11 @@ public final class PartFormulas {
         private Text text = new Text();
         private final int[] waiting = new int[LONGEST_TEXT];
         private int waitingCount = 0;
-        private final int[] openedAt = new int[MOST_GROUPS + 1];
-        private final int[] shapeByOperators = new int[MOST_GROUPS + 1];
-        private final int[] shapeOfFactor = new int[MOST_GROUPS + 1];
+        private final int[] openedAt = new int[MOST_NESTED + 1];
+        private final int[] shapeByOperators = new int[MOST_NESTED + 1];
+        private final int[] shapeOfFactor = new int[MOST_NESTED + 1];
         private int groups = 0;
+        private int nested = 0;
 
         boolean collect(char c) {
             if (length >= LONGEST_TEXT) {
@@ -619,6 +620,7 @@ public final class PartFormulas {
         private boolean readExpression() {
             waitingCount = 0;
             groups = 0;
+            nested = 0;
             shapeByOperators[0] = SINGLE;
             boolean goesOn = true;
             for (int turn = 0; turn < LONGEST_TEXT && goesOn; turn++) {
@@ -637,12 +639,13 @@ public final class PartFormulas {
         }
 
         private boolean readFactor() {
-            for (; at < length && (typed[at] == '-' || typed[at] == '(' && groups < MOST_GROUPS); at++) {
-                if (typed[at] == '-') {
+            for (; nested < MOST_NESTED && (next() == '-' || next() == '('); nested++) {
+                if (next() == '-') {
                     hold(NEGATE);
                 } else {
                     openGroup();
                 }
+                at++;
             }
             shapeOfFactor[groups] = SINGLE;
             char c = next();
@@ -727,6 +730,7 @@ public final class PartFormulas {
                     dropped[closed] = true;
                 }
                 groups--;
+                nested--;
                 shapeOfFactor[groups] = before == NEGATE ? SINGLE : shape;
                 releaseNegations();
             }
@@ -795,6 +799,7 @@ public final class PartFormulas {
             while (waitingCount > 0 && lastWaiting() == NEGATE) {
                 text.steps.add(NEGATE, 0, 0);
                 waitingCount--;
+                nested--;
             }
         }
 

@@ -273,14 +273,14 @@ public final class ModelTest {
         }
 
         Tree factor(int depth) {
+            if (sees("-(") && depth == 8) {
+                throw new Bad(at);
+            }
             if (sees("-")) {
                 at++;
-                return new Tree('n', 0, null, factor(depth), null);
+                return new Tree('n', 0, null, factor(depth + 1), null);
             }
             if (sees("(")) {
-                if (depth == 8) {
-                    throw new Bad(at);
-                }
                 at++;
                 Tree tree = sum(depth + 1);
                 take(")");
@@ -665,7 +665,7 @@ public final class ModelTest {
             case 0: case 1: return someNumber();
             case 2: return "" + letter("aaabch");
             case 3: case 4: case 5: return below(3) == 0 ? "" + letter("ab") : someCell(parts);
-            case 6: return "-" + someFactor(depth - 1, parts);
+            case 6: return "-" + someFactor(depth - below(2), parts);
             default: return "(" + someSum(depth - 1, parts) + ")";
         }
     }
@@ -684,7 +684,7 @@ public final class ModelTest {
 
     private static String someText() {
         int parts = 1 + below(10);
-        int depth = below(6) == 0 ? 9 : below(4);
+        int depth = below(6) == 0 ? 7 : below(4);
         StringBuilder b = new StringBuilder();
         TreeSet<String> defined = new TreeSet<>();
         for (int n = 1 + below(below(8) == 0 ? 26 : 12); n > 0; n--) {

@@ -112,6 +112,16 @@ public final class PromisesTest {
         return b.toString();
     }
 
+    /** 24 definitions, each but the last needing the next one, which is larger by 1. */
+    private static String chain() {
+        String[] names = definitions(24).replace("=1", "").split(";");
+        StringBuilder b = new StringBuilder();
+        for (int i = 0; i < 23; i++) {
+            b.append(names[i]).append('=').append(names[i + 1]).append("-1;");
+        }
+        return b.append(names[23]).append("=a").toString();
+    }
+
     private static void face() {
         TreeSet<String> members = new TreeSet<>();
         for (Method m : PartFormulas.class.getDeclaredMethods()) {
@@ -222,10 +232,14 @@ public final class PromisesTest {
         dueRead("Aw=" + repeat("(", 8) + "1" + repeat(")", 8), 1);
         dueRead("Aw=" + repeat("(", 9) + "1" + repeat(")", 9), -1 - 11);
         dueRead("Aw=" + repeat("(", 8) + "1" + repeat(")", 8) + "+" + repeat("(", 8) + "1" + repeat(")", 8), 1);
-        dueRead("Aw=" + repeat("(-", 8) + "1" + repeat(")", 8) + "*(2)", 1);
-        dueRead("Aw=" + repeat("-", 396) + "1", 1);
-        dueCell("Aw=" + repeat("-", 395) + "1", "Aw", "-1/1");
-        dueRead("Aw=" + repeat("-", 397), -1 - 400);
+        dueRead("Aw=" + repeat("(-", 4) + "1" + repeat(")", 4) + "*(2)", 1);
+        dueRead("Aw=" + repeat("(-", 4) + "-1" + repeat(")", 4), -1 - 11);
+        dueRead("Aw=" + repeat("-(", 4) + "(1)" + repeat(")", 4), -1 - 11);
+        dueRead("Aw=" + repeat("(-1)-", 20) + "-(-1)", 1);
+        dueRead("Aw=" + repeat("-", 8) + "1--" + repeat("-", 7) + "1", 1);
+        dueRead("Aw=" + repeat("-", 9) + "1", -1 - 11);
+        dueRead("Aw=" + repeat("-", 397), -1 - 11);
+        dueCell("Aw=-------1", "Aw", "-1/1");
 
         PartFormulas f = ran("Aw=5;!Aw<5");
         due("a bad text", -4, () -> read(f, "Bw="));
@@ -313,6 +327,8 @@ public final class PromisesTest {
         due("a ring", 1, () -> with("Aw=Aw").run());
         due("the 24th", 24, () -> with(definitions(23) + ";Jz=Jz").run());
         dueCell("Aw=Bw+1;Bw=Cw+1;Cw=1", "Aw", "3/1");
+        dueCell(chain(), "Aw", "-23/1");
+        due("all of a long chain", 0, () -> with(chain()).run());
         dueCell("Aw=1/3+1/6", "Aw", "1/2");
         dueCell("Aw=1/-3", "Aw", "-1/3");
         dueCell("Aw=-1/-3", "Aw", "1/3");
