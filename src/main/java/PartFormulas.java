@@ -50,7 +50,7 @@ public final class PartFormulas {
 
     // In each group a sum and a product can wait for their right sides, and one operand is on top.
     private static final int DEEPEST_STACK = 2 * (MOST_NESTED + 1) + 1;
-    // Euclid's way takes fewer than 90 turns for numbers that fit a long.
+    // Euclid's way takes fewer turns than this for all numbers that fit a long.
     private static final int MOST_EUCLID_TURNS = 100;
 
     private final Reader reader = new Reader();
