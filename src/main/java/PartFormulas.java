@@ -675,7 +675,8 @@ public final class PartFormulas {
             }
             int below = 1;
             int point = at;
-            if (pass('.')) {
+            if (next() == '.') {
+                at++;
                 above = readDigits(above, MOST_DIGITS_BEHIND_POINT);
                 if (at == point + 1) {
                     return false;
