@@ -692,6 +692,18 @@ public final class BoundariesTest extends Asking {
         }
     }
 
+    private static void noRoomOrNoValue() {
+        sentence("there is no room; there is no VALUE.");
+        PartFormulas f = ran("Aw=1;Bw=Bw");
+        for (int v = 0; v < 4; v++) {
+            f.version();
+        }
+        due("there is no room", STATE, f::version);
+        due("there is no VALUE: a ring", STATE, () -> f.size(1, 0, 0));
+        due("there is no VALUE: not defined", STATE, () -> f.size(2, 0, 1));
+        due("there is one", 1, () -> f.size(0, 0, 1));
+    }
+
     // ---- Promises
 
     private static void newObject() {
@@ -845,7 +857,11 @@ public final class BoundariesTest extends Asking {
         read(f, "Aw=1+2;!1<2");
         read(f, "Bw=1");
         due("nothing of a longer text before", NONE, () -> f.write(4));
+    }
+
+    private static void writeRefuses() {
         sentence("IllegalStateException; IllegalArgumentException: i is below 0.");
+        PartFormulas f = with("Aw=(07)");
         due("write(-1)", ARGUMENT, () -> f.write(-1));
         due("write(MIN)", ARGUMENT, () -> f.write(Integer.MIN_VALUE));
         due("without a text", STATE, () -> new PartFormulas().write(0));
@@ -908,6 +924,22 @@ public final class BoundariesTest extends Asking {
         due("a is 1", 0, f::run);
     }
 
+    private static void stateTells0To5() {
+        sentence("What a cell is: 0 .. 5. IllegalStateException (first); IndexOutOfBoundsException.");
+        PartFormulas f = ran("Jw=1;Jh=1/0;Jd=99999*99999;Jx=Jx;Jy=Jx");
+        int[] states = {1, 2, 3, 4, 5, 0};
+        for (int measure = 0; measure < 6; measure++) {
+            int m = measure;
+            due("state(9, " + m + ")", states[m], () -> f.state(9, m));
+            due("state(0, " + m + ")", 0, () -> f.state(0, m));
+        }
+        due("state(10, 0)", INDEX, () -> f.state(10, 0));
+        due("state(9, 6)", INDEX, () -> f.state(9, 6));
+        due("state(-1, 0)", INDEX, () -> f.state(-1, 0));
+        due("state(0, -1)", INDEX, () -> f.state(0, -1));
+        due("nothing was worked out, first", STATE, () -> with("Aw=1").state(10, 0));
+    }
+
     private static void sizeBounds() {
         sentence("A cell's numerator (which = 0) or denominator (1). IndexOutOfBoundsException; "
                 + "IllegalArgumentException: another which; IllegalStateException.");
@@ -934,7 +966,11 @@ public final class BoundariesTest extends Asking {
         }
         due("ring(MAX)", NONE, () -> f.ring(Integer.MAX_VALUE));
         due("no ring at all", NONE, () -> with("Aw=1").ring(0));
+    }
+
+    private static void ringRefuses() {
         sentence("IllegalStateException: nothing was read; IllegalArgumentException: k is below 0.");
+        PartFormulas f = with("Aw=Aw");
         due("ring(-1)", ARGUMENT, () -> f.ring(-1));
         due("ring(MIN)", ARGUMENT, () -> f.ring(Integer.MIN_VALUE));
         due("nothing was read", STATE, () -> new PartFormulas().ring(0));
@@ -958,6 +994,19 @@ public final class BoundariesTest extends Asking {
         }
     }
 
+    private static void conditionRefuses() {
+        sentence("NONE if it has no VALUE. IllegalStateException (first); IndexOutOfBoundsException.");
+        PartFormulas f = ran("Jz=1");
+        due("condition(9, 5)", 0, () -> f.condition(9, 5));
+        due("condition(0, 0)", NONE, () -> f.condition(0, 0));
+        due("condition(10, 0)", INDEX, () -> f.condition(10, 0));
+        due("condition(9, 6)", INDEX, () -> f.condition(9, 6));
+        due("condition(-1, 0)", INDEX, () -> f.condition(-1, 0));
+        due("condition(0, -1)", INDEX, () -> f.condition(0, -1));
+        due("nothing was worked out, first", STATE, () -> with("Aw=1").condition(10, 0));
+        due("nothing was read, first", STATE, () -> new PartFormulas().condition(0, 6));
+    }
+
     private static void lineBounds() {
         sentence("The statement that defines a cell; NONE without.");
         PartFormulas f = with("!1<2;Jz=Bw;Aw=1");
@@ -966,7 +1015,13 @@ public final class BoundariesTest extends Asking {
             due("line of " + name(c), c == 0 ? 2 : c == 59 ? 1 : NONE, () -> f.line(c / 6, c % 6));
         }
         due("the 24th", 23, () -> with(definitions(24)).line(3, 5));
+    }
+
+    private static void lineRefuses() {
         sentence("IllegalStateException (nothing was read; first); IndexOutOfBoundsException.");
+        due("nothing was read, first", STATE, () -> new PartFormulas().line(10, 6));
+        due("part 10", INDEX, () -> with("Aw=1").line(10, 0));
+        due("measure 6", INDEX, () -> with("Aw=1").line(0, 6));
         due("nothing was read", STATE, () -> new PartFormulas().line(0, 0));
         due("worked out is not asked for", 0, () -> with("Aw=1").line(0, 0));
     }
@@ -982,7 +1037,14 @@ public final class BoundariesTest extends Asking {
         due("what is not defined is needed if mentioned", true, () -> with("Aw=Jz").needs(0, 59));
         due("by a ring", true, () -> with("Aw=Bw;Bw=Cw+Bw;Cw=Jz").needs(0, 59));
         due("in a limit nobody needs", false, () -> with("Aw=1;!Aw=Bw").needs(0, 6));
+    }
+
+    private static void needsRefuses() {
         sentence("IndexOutOfBoundsException: there is no such cell (0 .. 59).");
+        PartFormulas f = with("Aw=Jz");
+        due("cell 59", false, () -> f.needs(59, 0));
+        due("other 59", true, () -> f.needs(0, 59));
+        due("nothing was read, first", STATE, () -> new PartFormulas().needs(60, -1));
         for (int wrong : new int[] {-1, 60, 64, 65536, Integer.MAX_VALUE, Integer.MIN_VALUE}) {
             due("needs(" + wrong + ", 0)", INDEX, () -> f.needs(wrong, 0));
             due("needs(0, " + wrong + ")", INDEX, () -> f.needs(0, wrong));
@@ -1004,7 +1066,12 @@ public final class BoundariesTest extends Asking {
         due("no limits", NONE, () -> ran("Aw=1/0").limit(0, 0));
         due("the 24th of 24", 23, () -> ran(joined("!2<1", 24)).limit(23, 0));
         due("no 25th", NONE, () -> ran(joined("!2<1", 24)).limit(24, 0));
+    }
+
+    private static void limitRefuses() {
         sentence("IllegalStateException; IllegalArgumentException: k is below 0, or another what.");
+        PartFormulas f = ran("!2<1");
+        due("nothing was worked out, first", STATE, () -> with("!2<1").limit(-1, 2));
         due("limit(-1, 0)", ARGUMENT, () -> f.limit(-1, 0));
         due("limit(MIN, 1)", ARGUMENT, () -> f.limit(Integer.MIN_VALUE, 1));
         for (int what : new int[] {-1, 2, 256, Integer.MAX_VALUE, Integer.MIN_VALUE}) {
@@ -1047,7 +1114,13 @@ public final class BoundariesTest extends Asking {
         due("as before: same", true, f::same);
         due("again", 1, () -> f.check(1));
         due("and not so far", NONE, () -> f.check(0));
+    }
+
+    private static void checkRefuses() {
         sentence("IllegalStateException; IllegalArgumentException: steps are not 0 .. 50.");
+        PartFormulas f = ran("!a<50");
+        due("check(0)", NONE, () -> f.check(0));
+        due("check(50)", 50, () -> f.check(50));
         for (int steps : new int[] {-1, 51, 256, 65536, Integer.MAX_VALUE, Integer.MIN_VALUE}) {
             due("check(" + steps + ")", ARGUMENT, () -> f.check(steps));
         }
@@ -1125,8 +1198,13 @@ public final class BoundariesTest extends Asking {
         due("as before run", 0, () -> f.differs(0, 0));
         f.set(0, 0, 1);
         due("back again", NONE, () -> f.differs(0, 0));
+    }
+
+    private static void differsRefuses() {
         sentence("IllegalStateException: nothing was worked out (first); IndexOutOfBoundsException; "
                 + "IllegalArgumentException: k is below 0.");
+        PartFormulas f = ran("Aw=1");
+        f.version();
         for (int version : new int[] {-1, 1, 3, 4, Integer.MAX_VALUE, Integer.MIN_VALUE}) {
             due("version " + version, INDEX, () -> f.differs(version, 0));
         }
@@ -1222,18 +1300,28 @@ public final class BoundariesTest extends Asking {
                 BoundariesTest::firstReasonFromTheLeft, BoundariesTest::undefinedIsZero,
                 BoundariesTest::limitsHoldOrAreBroken, BoundariesTest::numbersPrinted, BoundariesTest::groupsPrinted,
                 BoundariesTest::printedMeansTheSame, BoundariesTest::throwingChangesNothing,
-                BoundariesTest::firstNamedIsThrown, BoundariesTest::noSuchIndex, BoundariesTest::nothingReadOrWorkedOut));
+                BoundariesTest::firstNamedIsThrown, BoundariesTest::noSuchIndex, BoundariesTest::nothingReadOrWorkedOut,
+                BoundariesTest::noRoomOrNoValue));
     }
 
     private static List<Runnable> promises() {
         return List.of(
                 BoundariesTest::newObject, BoundariesTest::unitTakes33To126, BoundariesTest::fullTextHasNoRoom,
                 BoundariesTest::readTellsTheFirstWrongPlace, BoundariesTest::readEmptiesTheText,
-                BoundariesTest::whatWasReadStays, BoundariesTest::nothingOfOlderTextsIsLeft, BoundariesTest::writeEnds, BoundariesTest::setBounds,
-                BoundariesTest::setTellsWhetherAnother, BoundariesTest::runTellsTheFirst, BoundariesTest::sizeBounds,
-                BoundariesTest::ringBounds, BoundariesTest::conditionBounds, BoundariesTest::lineBounds,
-                BoundariesTest::needsBounds, BoundariesTest::limitBounds, BoundariesTest::checkSteps,
+                BoundariesTest::whatWasReadStays, BoundariesTest::nothingOfOlderTextsIsLeft, BoundariesTest::writeEnds,
+                BoundariesTest::writeRefuses, BoundariesTest::setBounds,
+                BoundariesTest::setTellsWhetherAnother, BoundariesTest::runTellsTheFirst,
+                BoundariesTest::stateTells0To5, BoundariesTest::sizeBounds,
+                BoundariesTest::ringBounds,
+                BoundariesTest::ringRefuses, BoundariesTest::conditionBounds,
+                BoundariesTest::conditionRefuses, BoundariesTest::lineBounds,
+                BoundariesTest::lineRefuses,
+                BoundariesTest::needsBounds,
+                BoundariesTest::needsRefuses, BoundariesTest::limitBounds,
+                BoundariesTest::limitRefuses, BoundariesTest::checkSteps,
+                BoundariesTest::checkRefuses,
                 BoundariesTest::checkEndsAtBigNumerators, BoundariesTest::versionsAreFour, BoundariesTest::differsBounds,
+                BoundariesTest::differsRefuses,
                 BoundariesTest::sameAlways, BoundariesTest::reckonedByRun, BoundariesTest::reckonedBySet);
     }
 
