@@ -20,6 +20,39 @@ public final class BoundariesTest extends Asking {
         return repeat(part + ";", times - 1) + part;
     }
 
+    // ---- What it is
+
+    private static void usedFor512Calls() {
+        sentence("An object is used for at most 512 calls after it has been made; what later calls answer is free.");
+        PartFormulas typed = new PartFormulas();
+        type(typed, "Aw=" + repeat("1+", 198) + "1");
+        due("call 401 reads 400 characters", 1, typed::read);
+        due("call 402 works them out", 0, typed::run);
+        for (int call = 403; call < 512; call++) {
+            int c = call;
+            due("call " + c, true, () -> typed.set(0, c, 1));
+        }
+        due("call 512", 199, () -> typed.size(0, 0, 0));
+
+        PartFormulas changed = ran(chain());
+        int left = 512 - chain().length() - 2;
+        for (int call = 1; call < left; call++) {
+            int c = call;
+            due("change " + c, true, () -> changed.set(0, c % 2 == 0 ? -LARGEST : LARGEST, 1 + c));
+        }
+        due("the last call tells them all", 24L * left, changed::reckoned);
+
+        PartFormulas read = new PartFormulas();
+        for (int call = 1; call <= 500; call += 5) {
+            due("a text at calls up to " + (call + 4), 1, () -> read(read, "Aw=a"));
+        }
+        due("call 501", 0, read::run);
+        for (int call = 502; call < 512; call++) {
+            due("call " + call, NONE, () -> read.check(50));
+        }
+        due("call 512", 1, read::reckoned);
+    }
+
     // ---- Terms
 
     private static void optionsAreAToH() {
@@ -704,6 +737,21 @@ public final class BoundariesTest extends Asking {
         due("there is one", 1, () -> f.size(0, 0, 1));
     }
 
+    private static void anotherNumberIsNotAsSaid() {
+        sentence("IllegalArgumentException: another number is not as said.");
+        Use[] wrong = {f -> f.write(-1), f -> f.set(0, 1, 0), f -> f.set(0, LARGEST + 1, 1), f -> f.size(0, 0, 2),
+            f -> f.ring(-1), f -> f.limit(-1, 0), f -> f.limit(0, 2), f -> f.check(51), f -> f.differs(0, -1)};
+        for (int i = 0; i < wrong.length; i++) {
+            Use use = wrong[i];
+            due("another number, call " + i, ARGUMENT, () -> {
+                PartFormulas f = ran("Aw=1;!Aw=1");
+                f.version();
+                return use.of(f);
+            });
+        }
+        due("a character is never refused so", false, () -> new PartFormulas().unit(-1));
+    }
+
     // ---- Promises
 
     private static void newObject() {
@@ -867,6 +915,31 @@ public final class BoundariesTest extends Asking {
         due("without a text", STATE, () -> new PartFormulas().write(0));
     }
 
+    private static void optionBecomesTheFraction() {
+        sentence("An option becomes above / below");
+        long[][] rows = {{0, 1, 0, 1}, {0, LARGEST, 0, 1}, {6, 4, 3, 2}, {-6, 4, -3, 2}, {LARGEST, LARGEST, 1, 1},
+            {-LARGEST, LARGEST, -1, 1}, {LARGEST, 1, LARGEST, 1}, {-LARGEST, 1, -LARGEST, 1}, {1, LARGEST, 1, LARGEST},
+            {LARGEST - 1, LARGEST, LARGEST - 1, LARGEST}, {LARGEST, LARGEST - 1, LARGEST, LARGEST - 1}};
+        for (long[] row : rows) {
+            PartFormulas f = with("Aw=a;Bw=-h");
+            f.set(0, row[0], row[1]);
+            f.run();
+            f.set(7, row[0], row[1]);
+            due("before run " + row[0] + "/" + row[1], row[2] + "/" + row[3], () -> cell(f, "Aw"));
+            due("behind run " + row[0] + "/" + row[1], -row[2] + "/" + row[3], () -> cell(f, "Bw"));
+        }
+    }
+
+    private static void setRefusesNoSuchOption() {
+        sentence("An option becomes above / below; if all was worked out, and it was another fraction, "
+                + "what hangs on it is worked out again: whether it was another one. IndexOutOfBoundsException");
+        for (int option : new int[] {-1, 8, 9, 97, 65536, Integer.MAX_VALUE, Integer.MIN_VALUE}) {
+            due("set(" + option + ", 1, 1)", INDEX, () -> new PartFormulas().set(option, 1, 1));
+            due("set(" + option + ", 1, 0)", INDEX, () -> new PartFormulas().set(option, 1, 0));
+            due("behind run", INDEX, () -> ran("Aw=a").set(option, 1, 1));
+        }
+    }
+
     private static void setBounds() {
         sentence("IllegalArgumentException: below is below 1, or above or below is beyond 1000000000 in size, "
                 + "as they are told.");
@@ -922,6 +995,19 @@ public final class BoundariesTest extends Asking {
         due("a is 0", 1, f::run);
         f.set(0, 1, 1);
         due("a is 1", 0, f::run);
+    }
+
+    private static void runRefuses() {
+        sentence("0, or 1 and the first statement whose cell is defined and has no VALUE. IllegalStateException.");
+        due("nothing was collected", STATE, () -> new PartFormulas().run());
+        PartFormulas f = new PartFormulas();
+        type(f, "Aw=1");
+        due("only collected", STATE, f::run);
+        due("what was collected is still there", 1, f::read);
+        due("then it can be worked out", 0, f::run);
+        due("a text that fails", -5, () -> read(f, "Aw=1?"));
+        due("leaves the first one to be worked out again", 0, f::run);
+        due("both times count", 2L, f::reckoned);
     }
 
     private static void stateTells0To5() {
@@ -1040,7 +1126,8 @@ public final class BoundariesTest extends Asking {
     }
 
     private static void needsRefuses() {
-        sentence("IndexOutOfBoundsException: there is no such cell (0 .. 59).");
+        sentence("IllegalStateException (nothing was read; first); "
+                + "IndexOutOfBoundsException: there is no such cell (0 .. 59).");
         PartFormulas f = with("Aw=Jz");
         due("cell 59", false, () -> f.needs(59, 0));
         due("other 59", true, () -> f.needs(0, 59));
@@ -1288,6 +1375,7 @@ public final class BoundariesTest extends Asking {
 
     private static List<Runnable> terms() {
         return new ArrayList<>(List.of(
+                BoundariesTest::usedFor512Calls,
                 BoundariesTest::optionsAreAToH, BoundariesTest::cellsAreSixOfTenParts,
                 BoundariesTest::textHasAtMost400Characters, BoundariesTest::statementsAre1To24,
                 BoundariesTest::definitionOrLimit, BoundariesTest::atMostFourConditions, BoundariesTest::choiceIsWhole,
@@ -1301,7 +1389,7 @@ public final class BoundariesTest extends Asking {
                 BoundariesTest::limitsHoldOrAreBroken, BoundariesTest::numbersPrinted, BoundariesTest::groupsPrinted,
                 BoundariesTest::printedMeansTheSame, BoundariesTest::throwingChangesNothing,
                 BoundariesTest::firstNamedIsThrown, BoundariesTest::noSuchIndex, BoundariesTest::nothingReadOrWorkedOut,
-                BoundariesTest::noRoomOrNoValue));
+                BoundariesTest::noRoomOrNoValue, BoundariesTest::anotherNumberIsNotAsSaid));
     }
 
     private static List<Runnable> promises() {
@@ -1309,8 +1397,9 @@ public final class BoundariesTest extends Asking {
                 BoundariesTest::newObject, BoundariesTest::unitTakes33To126, BoundariesTest::fullTextHasNoRoom,
                 BoundariesTest::readTellsTheFirstWrongPlace, BoundariesTest::readEmptiesTheText,
                 BoundariesTest::whatWasReadStays, BoundariesTest::nothingOfOlderTextsIsLeft, BoundariesTest::writeEnds,
-                BoundariesTest::writeRefuses, BoundariesTest::setBounds,
-                BoundariesTest::setTellsWhetherAnother, BoundariesTest::runTellsTheFirst,
+                BoundariesTest::writeRefuses, BoundariesTest::optionBecomesTheFraction,
+                BoundariesTest::setRefusesNoSuchOption, BoundariesTest::setBounds,
+                BoundariesTest::setTellsWhetherAnother, BoundariesTest::runTellsTheFirst, BoundariesTest::runRefuses,
                 BoundariesTest::stateTells0To5, BoundariesTest::sizeBounds,
                 BoundariesTest::ringBounds,
                 BoundariesTest::ringRefuses, BoundariesTest::conditionBounds,

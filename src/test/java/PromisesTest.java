@@ -51,6 +51,24 @@ public final class PromisesTest extends Asking {
                 + PartFormulas.DIVISION + " " + PartFormulas.BIG + " " + PartFormulas.RING + " " + PartFormulas.MISSED);
     }
 
+    /** The calls that README.md shows, with the answers that it tells. */
+    private static void readmeExample() {
+        PartFormulas f = new PartFormulas();
+        type(f, "Aw=a*2+1;Ah=(Aw)/3.0;!Aw<20");
+        due("README read", 3, f::read);
+        due("README set", true, () -> f.set(0, 3, 2));
+        due("README run", 0, f::run);
+        due("README numerator", 4, () -> f.size(0, 1, 0));
+        due("README denominator", 3, () -> f.size(0, 1, 1));
+        due("README version", 0, f::version);
+        due("README check", 8, () -> f.check(10));
+        due("README set again", true, () -> f.set(0, 19, 2));
+        due("README limit", 2, () -> f.limit(0, 0));
+        due("README differs", 1, () -> f.differs(0, 1));
+        due("README write", (int) 'A', () -> f.write(12));
+        due("README printed", "Aw=a*2+1;Ah=Aw/3;!Aw<20", () -> printed(f));
+    }
+
     private static void promise1NewObject() {
         PartFormulas f = new PartFormulas();
         due("reckoned of a new object", 0, f::reckoned);
@@ -484,6 +502,7 @@ public final class PromisesTest extends Asking {
 
     public static void main(String[] args) {
         face();
+        readmeExample();
         promise1NewObject();
         promise2Unit();
         promise3Read();
